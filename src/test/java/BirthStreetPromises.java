@@ -285,6 +285,10 @@ public final class BirthStreetPromises {
         due(8, "house 1's births", x.about(1, 3), 3);
         due(8, "house 2's births", x.about(2, 3), 1);
         due(8, "house 5's births", x.about(5, 3), 1);
+        type(x, "h1,h1");
+        x.street();
+        due(8, "where an earlier street had a cradle", x.birth(1), 1);
+        x = street("h5,c6,c7,t8,m9,c4");
         unchanged(8, "a maid", x, y -> y.birth(4), STATE);
         unchanged(8, "a burnt one", street("h1,b1,c3"), y -> y.birth(1), STATE);
         unchanged(8, "house 6", x, y -> y.birth(6), UNKNOWN);
@@ -420,6 +424,7 @@ public final class BirthStreetPromises {
         due(15, "the cradle's own loan too", like.cheap(0, 1), 0b0111);
         due(15, "few go ahead of least", street("h3,h3,h5").cheap(6, 1), 0b100);
         due(15, "by no maid", street("h1,m9").cheap(8, 0), NONE);
+        due(15, "by no maid at the beginning", street("m9,h1").cheap(8, 0), NONE);
         due(15, "by no burnt one", street("h1,b9").cheap(8, 0), NONE);
         due(15, "just so much", street("h1,m9").cheap(9, 1), 0b01);
         unchanged(15, "much -1", x, y -> y.cheap(-1, 0), OUTSIDE);
@@ -546,6 +551,10 @@ public final class BirthStreetPromises {
         BirthStreet w = street("h9,t9");
         pass(w, 30);
         due(20, "all days", w.ask(), 0);
+        BirthStreet v = street("h0,h9");
+        pass(v, 30);
+        v.hear(0, 30);
+        due(20, "the greatest number, 39", v.ask(), 0);
         unchanged(20, "no street", new BirthStreet(), q -> q.ask(), STATE);
     }
 
@@ -605,6 +614,7 @@ public final class BirthStreetPromises {
         x.forget();
         x.debt(9, 9);
         x.hear(2, 9);
+        x.hear(2, 8);
         x.birth(0);
         x.day();
         x.birth(1);
@@ -682,5 +692,11 @@ public final class BirthStreetPromises {
             'z',
             2, 1, 1, 0, 1, 1, 7, 1, 1, 1));
         due(25, "it changes nothing", x.digest(), x.digest());
+        // By one birth, in house 1, all numbers are 9 together.
+        due(25, "cheap for 9", street("m9,h1").digest(), digestOf(
+            2, 9, 9, 0, 0, 1, 9,
+            0, 1, 1, 0, 0, 0, 1,
+            2, 1, 2, 1, 0, 0,
+            2, 0, 0, 10, 2, 0, 0, 0, 0, 1));
     }
 }
