@@ -1073,6 +1073,11 @@ public final class BirthStreetEdges {
             due("heard", x.hear(many % 2, many), many);
             due("told", x.count(7), many);
         }
+        BirthStreet again = street("h1,h2");
+        for (int many = 1; many <= 6; many++) {
+            due("heard again", again.hear(0, 1), many);
+        }
+        due("again, above six", again.hear(0, 1), FULL);
         says(17, "UNKNOWN: house;");
         houses(EACH, (y, house) -> y.hear(house, 0));
         houses(EACH, (y, house) -> y.hear(house, 99));
@@ -1500,6 +1505,10 @@ public final class BirthStreetEdges {
         y.street();
         y.restore();
         counts(9, 1, y);
+        BirthStreet z = imageAhead("h1,h2");
+        z.image();
+        z.restore();
+        counts(9, 2, z);
         says(24, "OUTSIDE.");
         range(OUTSIDE, "what", 0, 9, BirthStreetEdges::lived, BirthStreet::count);
         range(OUTSIDE, "what without a street", 0, 9, BirthStreet::new, BirthStreet::count);
