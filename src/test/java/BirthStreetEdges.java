@@ -797,6 +797,16 @@ public final class BirthStreetEdges {
         }
         due("number 0", street("h1,h0").goesTo(0, 0), 1);
         due("number 39", aged("b9,h9", 30).goesTo(39, 30), 1);
+        due("number 0 of none of six", street("h1,h2,h3,h4,h5,h6").goesTo(0, 0), NONE);
+        due("number 0 of none, earlier", aged("h1,h2,h3,h4,h5,h6", 2).goesTo(0, 0), NONE);
+        due("the first one's number of the next day", aged("h1,h9,h9,h9,h9,h9", 2).goesTo(2, 0), NONE);
+        due("the last one's number of the day ahead", aged("h9,h9,h9,h9,h9,h1", 2).goesTo(1, 1), NONE);
+        due("number 7 of a street that is gone", behind("h1,h2,b7", 2, "h1,h2", 0).goesTo(7, 0), NONE);
+        for (int day = 0; day <= 30; day++) {
+            for (int number = 0; number <= 40; number++) {
+                due("number " + number + " on day " + day, full().goesTo(number, day), firstWith(full(), number, day));
+            }
+        }
         says(11, "UNKNOWN: day (0 to now; also without a STREET).");
         range(UNKNOWN, "day", 0, 4, BirthStreetEdges::lived, (y, day) -> y.goesTo(4, day));
         range(UNKNOWN, "day of 30", 0, 30, BirthStreetEdges::full, (y, day) -> y.goesTo(4, day));
@@ -805,6 +815,23 @@ public final class BirthStreetEdges {
             refused(UNKNOWN, "day " + day + " without a street", BirthStreet::new, y -> y.goesTo(0, day));
         }
         refused(UNKNOWN, "day 0 of a page alone", () -> page("h0,h0"), y -> y.goesTo(0, 0));
+    }
+
+    // A street read behind another one, some days after both.
+    private static BirthStreet behind(String gone, int daysThen, String text, int daysNow) {
+        BirthStreet x = aged(gone, daysThen);
+        type(x, text);
+        x.street();
+        return pass(x, daysNow);
+    }
+
+    private static int firstWith(BirthStreet x, int number, int day) {
+        for (int house = 0; house < x.count(0); house++) {
+            if (x.then(house, day) == number) {
+                return house;
+            }
+        }
+        return NONE;
     }
 
     private static BirthStreet bornIn(int house, String text) {
@@ -1223,6 +1250,15 @@ public final class BirthStreetEdges {
         due("two alike behind a worse one", aged("b5,h5,h5", 3).ask(), 1);
         due("a better one behind two alike", aged("b5,b5,h5", 3).ask(), 2);
         due("one day alone", street("b5,h5").ask(), 0);
+        due("none beyond the last, of a street that is gone", behind("b1,b1,h0", 3, "b1,b1", 3).ask(), 0);
+        BirthStreet six = street("t0,b0,b0,b0,b0,b0");
+        for (int day = 1; day <= 5; day++) {
+            six.day();
+            if (day % 2 == 0) {
+                six.birth(0);
+            }
+        }
+        due("none beyond the sixth", six.ask(), 0);
         due("one day of many", full().ask(), 0);
         says(20, "none, if there are none.");
         BirthStreet w = street("h5,h5");
