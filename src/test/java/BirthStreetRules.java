@@ -1,3 +1,15 @@
+import com.sun.source.tree.ArrayAccessTree;
+import com.sun.source.tree.ClassTree;
+import com.sun.source.tree.CompilationUnitTree;
+import com.sun.source.tree.DoWhileLoopTree;
+import com.sun.source.tree.MethodInvocationTree;
+import com.sun.source.tree.MethodTree;
+import com.sun.source.tree.NewClassTree;
+import com.sun.source.tree.Tree;
+import com.sun.source.tree.WhileLoopTree;
+import com.sun.source.util.JavacTask;
+import com.sun.source.util.TreePathScanner;
+import com.sun.source.util.Trees;
 import java.io.IOException;
 import java.lang.reflect.Field;
 import java.lang.reflect.Method;
@@ -6,12 +18,18 @@ import java.nio.file.Files;
 import java.nio.file.Path;
 import java.util.Arrays;
 import java.util.List;
+import java.util.Map;
+import java.util.TreeMap;
 import java.util.TreeSet;
 import java.util.regex.Matcher;
 import java.util.regex.Pattern;
 import java.util.stream.Collectors;
+import javax.lang.model.element.Element;
+import javax.tools.JavaCompiler;
+import javax.tools.StandardJavaFileManager;
+import javax.tools.ToolProvider;
 
-// The face, and those rules of ../shared/LANGUAGE.md that can be seen by reflection or in the text.
+// The face, and those rules of ../shared/LANGUAGE.md that can be seen by reflection, in the text or in the compiler's tree.
 public final class BirthStreetRules {
     private static final Path PROGRAM = Path.of("src/main/java/BirthStreet.java");
     private static final List<String> FACE = List.of(
@@ -22,6 +40,10 @@ public final class BirthStreetRules {
     private static final List<String> CONSTANTS = List.of("NONE", "UNKNOWN", "OUTSIDE", "STATE", "FULL");
     private static final String NOT_IN_IT = "import|package|throw|throws|try|catch|finally|assert|synchronized|protected"
         + "|volatile|transient|native|System|Object|Random|Thread|equals|hashCode|toString|double|float";
+
+    private static final String LIBRARY = "java\\.lang\\.(Object\\.<init>|String\\.(length|charAt|isEmpty|equals|substring|toCharArray)"
+        + "|(Integer|Long|Math)\\.(abs|bitCount|compare|floorDiv|floorMod|max|min))";
+    private static final int DEEPEST = 8, MOST_LINES = 60, MOST_PARAMETERS = 7, MOST_FIELDS = 20, MOST_CLASSES = 12;
 
     private static int wrong = 0;
 
@@ -79,9 +101,126 @@ public final class BirthStreetRules {
         }
     }
 
+    // ---- the compiler's tree
+
+    private static final Map<String, TreeSet<String>> calls = new TreeMap<>();
+
+    private static void theTree() throws IOException {
+        JavaCompiler compiler = ToolProvider.getSystemJavaCompiler();
+        try (StandardJavaFileManager files = compiler.getStandardFileManager(null, null, null)) {
+            JavacTask task = (JavacTask) compiler.getTask(null, files, null, List.of("-proc:none"), null, files.getJavaFileObjects(PROGRAM));
+            CompilationUnitTree unit = task.parse().iterator().next();
+            task.analyze();
+            new Reader(Trees.instance(task), unit).scan(unit, null);
+        }
+        check(calls.containsKey("BirthStreet.digest"), "the tree was not read");
+        for (String method : calls.keySet()) {
+            int deep = deep(method, 1);
+            check(deep <= DEEPEST, method + " calls " + deep + " deep, or itself");
+        }
+    }
+
+    private static int deep(String method, int sofar) {
+        int deepest = sofar;
+        for (String called : calls.getOrDefault(method, new TreeSet<>())) {
+            deepest = sofar > DEEPEST ? deepest : Math.max(deepest, deep(called, sofar + 1));
+        }
+        return deepest;
+    }
+
+    private static final class Reader extends TreePathScanner<Void, Void> {
+        private final Trees trees;
+        private final CompilationUnitTree unit;
+        private String type = "";
+        private String method = "";
+        private int classes = 0;
+
+        Reader(Trees trees, CompilationUnitTree unit) {
+            this.trees = trees;
+            this.unit = unit;
+        }
+
+        private void call(Element called) {
+            String name = called.getEnclosingElement() + "." + called.getSimpleName();
+            if (name.startsWith("BirthStreet")) {
+                calls.computeIfAbsent(method, m -> new TreeSet<>()).add(name);
+            } else {
+                check(name.matches(LIBRARY), method + " calls " + name);
+            }
+        }
+
+        private long line(long place) {
+            return unit.getLineMap().getLineNumber(place);
+        }
+
+        @Override
+        public Void visitClass(ClassTree tree, Void nothing) {
+            String outer = type;
+            String of = method;
+            type = trees.getElement(getCurrentPath()).toString();
+            method = type + ".<init>";
+            classes++;
+            check(classes <= MOST_CLASSES, classes + " classes");
+            long fields = tree.getMembers().stream().filter(m -> m.getKind() == Tree.Kind.VARIABLE)
+                .filter(m -> !m.toString().contains("static final")).count();
+            check(fields <= MOST_FIELDS, type + " has " + fields + " fields");
+            super.visitClass(tree, nothing);
+            type = outer;
+            method = of;
+            return null;
+        }
+
+        @Override
+        public Void visitMethod(MethodTree tree, Void nothing) {
+            String of = method;
+            method = type + "." + tree.getName();
+            calls.computeIfAbsent(method, m -> new TreeSet<>());
+            long lines = line(trees.getSourcePositions().getEndPosition(unit, tree))
+                - line(trees.getSourcePositions().getStartPosition(unit, tree)) + 1;
+            check(lines <= MOST_LINES, method + " has " + lines + " lines");
+            check(tree.getParameters().size() <= MOST_PARAMETERS, method + " has " + tree.getParameters().size() + " parameters");
+            super.visitMethod(tree, nothing);
+            method = of;
+            return null;
+        }
+
+        @Override
+        public Void visitMethodInvocation(MethodInvocationTree tree, Void nothing) {
+            call(trees.getElement(getCurrentPath()));
+            return super.visitMethodInvocation(tree, nothing);
+        }
+
+        @Override
+        public Void visitNewClass(NewClassTree tree, Void nothing) {
+            call(trees.getElement(getCurrentPath()));
+            return super.visitNewClass(tree, nothing);
+        }
+
+        // Row looks at each index before it is used; so no other class may use one.
+        @Override
+        public Void visitArrayAccess(ArrayAccessTree tree, Void nothing) {
+            check(type.equals("BirthStreet.Row"), method + " uses an index: " + tree);
+            return super.visitArrayAccess(tree, nothing);
+        }
+
+        // All loops count against a bound in their own line.
+        @Override
+        public Void visitWhileLoop(WhileLoopTree tree, Void nothing) {
+            check(false, method + " has a while");
+            return super.visitWhileLoop(tree, nothing);
+        }
+
+        @Override
+        public Void visitDoWhileLoop(DoWhileLoopTree tree, Void nothing) {
+            check(false, method + " has a do");
+            return super.visitDoWhileLoop(tree, nothing);
+        }
+    }
+
     public static void main(String[] args) throws IOException {
         theFace();
         theText();
+        theTree();
         System.out.println(wrong == 0 ? "the rules are kept" : wrong + " rules are broken");
         if (wrong != 0) {
             System.exit(1);
