@@ -108,6 +108,15 @@ public final class BirthStreetReadme {
         check(readme.contains("`NONE` (" + BirthStreet.NONE + ")"), "NONE");
     }
 
+    // Promise 25: a digest wraps, so one below -100 is no refusal; the page must not say that it is.
+    private static void aDigestIsNoRefusal(String readme) {
+        BirthStreet x = new BirthStreet();
+        "h1,h2".chars().forEach(x::letter);
+        check(x.digest() < BirthStreet.FULL, "promise 25: that digest is no longer below the refusals");
+        check(readme.contains("`digest()` refuses nothing and may answer any number") && !readme.contains("below -100"),
+            "promise 25: a digest below -100 is no refusal");
+    }
+
     private static void theTestsAreNamed(String readme) throws IOException {
         TreeSet<String> told = new TreeSet<>(found("(?m)^- `(BirthStreet\\w+)`: ", readme));
         try (Stream<Path> files = Files.list(Path.of("src/test/java"))) {
@@ -127,6 +136,7 @@ public final class BirthStreetReadme {
         theLinesAnswerSo(readme);
         theCallsAreTheFace(readme);
         theConstantsAreSo(readme);
+        aDigestIsNoRefusal(readme);
         theTestsAreNamed(readme);
         System.out.println(wrong == 0 ? "README.md says what is so" : wrong + " things in README.md are not so");
         if (wrong != 0) {
